@@ -39,15 +39,15 @@ public final class TriggerLoom {
     private Trigger spare;
 
     public TriggerLoom() {
+        trigger = new Trigger();
+        spare = new Trigger();
         tape = new Tape();
-        reader = new TextReader(tape);
+        reader = new TextReader(tape, spare);
         history = new History();
         net = new Catch();
         marks = new Marks();
         frameReader = new FrameReader(history, marks);
         byteReader = new ByteReader(history, marks);
-        trigger = new Trigger();
-        spare = new Trigger();
     }
 
     // ---- the text
@@ -234,7 +234,10 @@ public final class TriggerLoom {
         int d = 1 << data;
         int others = lastSample() & ~(c | d);
         int hits = start ? takeThree(others | c | d, others | c, others) : 0;
-        hits += takeBits(others, c, d, b);
+        for (int j = BITS_OF_BYTE - 1; j >= 0; j--) {
+            int low = bitOf(b, j) == 1 ? others | d : others;
+            hits += takeThree(low, low | c, low);
+        }
         return hits + (stop ? takeThree(others, others | c, others | c | d) : 0);
     }
 
@@ -303,15 +306,6 @@ public final class TriggerLoom {
             hits += take(bitOf(b, j) == 1 ? high : low, width);
         }
         return hits + take(high, width);
-    }
-
-    private int takeBits(int others, int clockBit, int dataBit, int b) {
-        int hits = 0;
-        for (int j = BITS_OF_BYTE - 1; j >= 0; j--) {
-            int idle = bitOf(b, j) == 1 ? others | dataBit : others;
-            hits += takeThree(idle, idle | clockBit, idle);
-        }
-        return hits;
     }
 
     private static int bitOf(int bits, int place) {
@@ -392,8 +386,9 @@ public final class TriggerLoom {
         private int syntaxPlace = NONE;
         private int spanPlace = NONE;
 
-        TextReader(Tape tape) {
+        TextReader(Tape tape, Trigger into) {
             this.tape = tape;
+            this.into = into;
         }
 
         boolean readInto(Trigger target) {
@@ -614,7 +609,6 @@ public final class TriggerLoom {
             this.second = second;
             this.low = low;
             this.high = high;
-            rest();
         }
 
         void rest() {

@@ -16,6 +16,7 @@ public final class MarkTest {
         framesRefusals();
         bytes();
         byteStarts();
+        bytesBeginAnew();
         byteStops();
         bytesAtMost();
         faultIsTheLastMark();
@@ -164,6 +165,14 @@ public final class MarkTest {
         mark(x, 0, START, NONE, 1);
         mark(x, 1, START, NONE, 6);
         mark(x, 2, BYTE, 1, 31);
+    }
+
+    private static void bytesBeginAnew() {
+        TriggerLoom x = two("32" + "131");
+        C.due("a START without a STOP", x.bytes(CLOCK, DATA), 1);
+        x.arm();
+        Checks.samples(x, 1 << CLOCK, 1 << CLOCK | 1 << DATA);
+        C.due("that START is gone", x.bytes(CLOCK, DATA), 0);
     }
 
     private static void byteStops() {
