@@ -12,6 +12,8 @@ public final class ModelTest {
     private TriggerLoom x;
     private Model m;
     private String text;
+    // One call of so many lets many SAMPLES come.
+    private int seldomLong;
 
     public static void main(String[] args) {
         for (int run = 0; run < RUNS; run++) {
@@ -26,7 +28,9 @@ public final class ModelTest {
         m = new Model();
         text = "";
         // Some runs read often, others let SAMPLES come.
-        int texts = run % 4 == 0 ? 60 : 6;
+        int texts = run % 4 == 0 ? 60 : run % 4 == 1 ? 1 : 6;
+        // And some come to 4000.
+        seldomLong = run % 4 == 1 ? 5 : 60;
         for (int call = 0; call < CALLS; call++) {
             String where = "run " + run + ", call " + call + ", text '" + text + "', ";
             if (pick(100) < texts || call == 0) {
@@ -45,7 +49,7 @@ public final class ModelTest {
     private int readAText(String where) {
         text = pick(4) == 0 ? spoiled(row(pick(13))) : row(pick(4));
         if (pick(12) == 0) {
-            text = "(((((((((((".substring(pick(3)) + text + "))))))))))))".substring(pick(4));
+            text = "(((((((((((".substring(pick(5)) + text + "))))))))))))".substring(pick(5));
         }
         int calls = 0;
         for (int from = 0; from < text.length(); from += 8) {
@@ -68,7 +72,7 @@ public final class ModelTest {
     private String row(int size) {
         String row = either(size);
         while (pick(3) == 0) {
-            int low = 1 + pick(6);
+            int low = pick(12) == 0 ? 1 + pick(999) : 1 + pick(6);
             String span = pick(2) == 0 ? low + "," + (pick(20) == 0 ? pick(low + 1) : low + pick(9)) + ":" : "";
             row += blank() + ";" + span + blank() + either(size / 2);
         }
@@ -92,7 +96,7 @@ public final class ModelTest {
             case 0:
                 return "!" + blank() + one(size - 1);
             case 1:
-                return (1 + pick(4)) + "*" + one(size - 1);
+                return (pick(12) == 0 ? pick(1001) : 1 + pick(4)) + "*" + one(size - 1);
             default:
                 return "(" + row(size - 1) + blank() + ")";
         }
@@ -129,7 +133,7 @@ public final class ModelTest {
         switch (pick(24)) {
             case 0, 1, 2, 3, 4, 5:
                 a = number(8);
-                b = pick(60) == 0 ? number(1200) : pick(3) + (pick(90) == 0 ? 0 : 1);
+                b = pick(seldomLong) == 0 ? number(1200) : pick(3) + (pick(90) == 0 ? 0 : 1);
                 C.due(where + "sample(" + a + ", " + b + ")", x.sample(a, b), m.sample(a, b));
                 return;
             case 6:
